@@ -1,0 +1,43 @@
+/** Counts answers that are not the due ones, for one test. */
+final class Checks {
+    private final String about;
+    private int made;
+    private int wrong;
+
+    Checks(String about) {
+        this.about = about;
+    }
+
+    void due(String what, long got, long want) {
+        made++;
+        if (got != want) {
+            wrong++;
+            System.out.println(about + ": " + what + " answered " + got + ", due is " + want);
+        }
+    }
+
+    void due(String what, boolean got, boolean want) {
+        due(what, got ? 1 : 0, want ? 1 : 0);
+    }
+
+    void dueThrow(String what, PlaySearch x, int i) {
+        made++;
+        String thrown = "nothing";
+        try {
+            x.queue(i);
+        } catch (RuntimeException e) {
+            thrown = e.getClass().getName();
+        }
+        if (!thrown.equals("java.lang.ArrayIndexOutOfBoundsException")) {
+            wrong++;
+            System.out.println(about + ": " + what + " threw " + thrown);
+        }
+    }
+
+    void end() {
+        System.out.println(about + ": " + made + " answers, " + wrong + " not as due");
+        if (made == 0 || wrong != 0) {
+            System.exit(1);
+        }
+    }
+}
