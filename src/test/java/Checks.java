@@ -37,6 +37,10 @@ final class Checks {
         }
     }
 
+    int made() {
+        return made;
+    }
+
     void end() {
         System.out.println(about + ": " + made + " answers, " + wrong + " not as due");
         if (made == 0 || wrong != 0) {
