@@ -1,4 +1,4 @@
-/** The edges of promises 23 to 26, of the present and of all counts, and of what is not promised. */
+/** The edges of promises 23 to 26 (the present, all counts) and of what is not promised. */
 final class EdgesOfNow {
     private static final int NONE = Run.NONE;
 

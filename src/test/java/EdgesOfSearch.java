@@ -172,7 +172,7 @@ final class EdgesOfSearch {
         x.due(x.at(5), NONE);
     }
 
-    /** Counts to 1499 by macros of six moves, of which none but the last changes more than a clock. */
+    /** Counts to 1499 by macros of six moves; only the last changes more than a clock. */
     private static void longest(Run x) {
         x.cells(4);
         int phase = x.cell(0, true);

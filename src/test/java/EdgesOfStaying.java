@@ -11,7 +11,7 @@ final class EdgesOfStaying {
     private EdgesOfStaying() {
     }
 
-    /** A story whose play is found with five nodes, one of them ended; texts 1 and 4 are not seen. */
+    /** A play is found with five nodes, one of them ended; texts 1 and 4 are not seen. */
     private static void searched(Run x) {
         x.cell(0, false);
         x.cell(5, false);

@@ -16,9 +16,10 @@ import java.util.regex.Pattern;
  * section ("terms", "promise7", "notPromised") where the words stand.
  */
 public final class EdgesTest {
-    private static final Class<?>[] TESTS = {EdgesOfTerms.class, EdgesOfStaying.class,
-        EdgesOfMaking.class, EdgesOfSearch.class, EdgesOfNow.class};
-    private static final Pattern SECTION = Pattern.compile("(terms|notPromised|promise\\d+)[A-Z].*");
+    private static final Class<?>[] TESTS = {EdgesOfTerms.class, EdgesOfNodes.class,
+        EdgesOfStaying.class, EdgesOfMaking.class, EdgesOfSearch.class, EdgesOfNow.class};
+    private static final Pattern SECTION =
+            Pattern.compile("(terms|notPromised|promise\\d+)[A-Z].*");
     private static final Path DOCUMENT = Path.of("..", "shared", "DOC.md");
     private static final int PROMISES = 26;
 

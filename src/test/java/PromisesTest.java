@@ -698,7 +698,7 @@ public final class PromisesTest {
         c.due("not a macro", x.node(x.told(5) - 1, 1) == 100 + macro, false);
     }
 
-    /** Counts to 1499 by macros of six moves, of which none but the last changes more than a clock. */
+    /** Counts to 1499 by macros of six moves; only the last changes more than a clock. */
     private static void promise14And15LongestPlay() {
         PlaySearch x = withCells(4);
         int phase = x.cell(0, true);

@@ -9,7 +9,7 @@ final class Run {
     static final int NONE = PlaySearch.NONE;
     static final int MOST_CALLS = 512;
 
-    /** Numbers far outside every range of the document, some of which wrap when 10 or 100 is taken. */
+    /** Numbers far outside every range of the document; some wrap when 10 or 100 is taken. */
     static final int[] FAR = {Integer.MIN_VALUE, Integer.MIN_VALUE + 9, -1000, 1000,
         Integer.MAX_VALUE - 9, Integer.MAX_VALUE};
 
