@@ -1,8 +1,6 @@
 import java.io.IOException;
 import java.lang.reflect.InvocationTargetException;
 import java.lang.reflect.Method;
-import java.nio.file.Files;
-import java.nio.file.Path;
 import java.util.Arrays;
 import java.util.Comparator;
 import java.util.Set;
@@ -13,31 +11,27 @@ import java.util.regex.Pattern;
 /**
  * Runs a test of its own for each sentence of the document that names a boundary case. A test is a
  * static method that bears the sentence's words and takes a new object; its name begins with the
- * section ("terms", "promise7", "notPromised") where the words stand.
+ * section ("whatItIs", "terms", "promise7", "notPromised") where the words stand.
  */
 public final class EdgesTest {
-    private static final Class<?>[] TESTS = {EdgesOfTerms.class, EdgesOfNodes.class,
-        EdgesOfStaying.class, EdgesOfMaking.class, EdgesOfSearch.class, EdgesOfNow.class};
+    private static final Class<?>[] TESTS = {EdgesOfAll.class, EdgesOfTerms.class,
+        EdgesOfNodes.class, EdgesOfStaying.class, EdgesOfMaking.class, EdgesOfSearch.class,
+        EdgesOfNow.class};
     private static final Pattern SECTION =
-            Pattern.compile("(terms|notPromised|promise\\d+)[A-Z].*");
-    private static final Path DOCUMENT = Path.of("..", "shared", "DOC.md");
+            Pattern.compile("(whatItIs|terms|notPromised|promise\\d+)[A-Z].*");
     private static final int PROMISES = 26;
 
     private final Checks checks = new Checks("edges");
     private final Set<String> sections = new TreeSet<>();
-    private final String document;
+    private final Document document;
     private int tests;
 
-    private EdgesTest(String document) {
+    private EdgesTest(Document document) {
         this.document = document;
     }
 
     public static void main(String[] args) throws IOException, IllegalAccessException {
-        boolean isThere = Files.exists(DOCUMENT);
-        if (!isThere) {
-            System.out.println("edges: no " + DOCUMENT + ", so the words are not looked up in it");
-        }
-        EdgesTest all = new EdgesTest(isThere ? Files.readString(DOCUMENT) : null);
+        EdgesTest all = new EdgesTest(Document.read("edges"));
         for (Class<?> some : TESTS) {
             all.runAll(some);
         }
@@ -75,25 +69,26 @@ public final class EdgesTest {
     }
 
     private boolean stands(String words, String section) {
-        return document == null || oneLine(textOf(section)).contains(oneLine(words));
+        return !document.isThere() || document.says(words, headingOf(section));
     }
 
-    /** The document from a section's heading to the next one. */
-    private String textOf(String section) {
-        String heading = section.equals("terms") ? "## Terms\n"
-                : section.equals("notPromised") ? "## Not promised\n"
-                : "## Promise " + section.substring("promise".length()) + ":";
-        int start = document.indexOf(heading);
-        int end = document.indexOf("\n## ", start + 1);
-        return start < 0 ? "" : document.substring(start, end < 0 ? document.length() : end);
-    }
-
-    private static String oneLine(String text) {
-        return text.replaceAll("\\s+", " ");
+    private static String headingOf(String section) {
+        switch (section) {
+            case "whatItIs":
+                return "What it is\n";
+            case "terms":
+                return "Terms\n";
+            case "notPromised":
+                return "Not promised\n";
+            default:
+                return "Promise " + section.substring("promise".length()) + ":";
+        }
     }
 
     private void end() {
-        checks.due("the terms have tests", sections.contains("terms"), true);
+        for (String section : new String[] {"whatItIs", "terms", "notPromised"}) {
+            checks.due(section + " has tests", sections.contains(section), true);
+        }
         for (int promise = 1; promise <= PROMISES; promise++) {
             boolean hasTest = sections.contains("promise" + promise);
             checks.due("promise " + promise + " has tests", hasTest, true);

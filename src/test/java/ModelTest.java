@@ -10,13 +10,14 @@ public final class ModelTest {
 
     private final Checks checks;
     private final int run;
-    private final PlaySearch x = new PlaySearch();
+    private final Run x;
     private final Model m = new Model();
     private long drawn;
 
     private ModelTest(Checks checks, int run) {
         this.checks = checks;
         this.run = run;
+        this.x = new Run("run " + run, checks);
         this.drawn = 77 + 1000003L * run;
     }
 

@@ -1,6 +1,6 @@
 /** The document's promises one by one: ordinary inputs, the edges that it names, wrong inputs. */
 public final class PromisesTest {
-    private static final int NONE = PlaySearch.NONE;
+    private static final int NONE = Run.NONE;
     private static final int[] FAR = {Integer.MIN_VALUE, -1000, 1000, Integer.MAX_VALUE};
 
     private static final Checks c = new Checks("promises");
@@ -48,8 +48,8 @@ public final class PromisesTest {
     }
 
     /** A new object with so many cells that are 0 at first and no clocks. */
-    private static PlaySearch withCells(int count) {
-        PlaySearch x = new PlaySearch();
+    private static Run withCells(int count) {
+        Run x = new Run("promises", c);
         for (int i = 0; i < count; i++) {
             x.cell(0, false);
         }
@@ -57,34 +57,34 @@ public final class PromisesTest {
     }
 
     /** A move more that adds v to a cell. */
-    private static int adding(PlaySearch x, int cell, int v) {
+    private static int adding(Run x, int cell, int v) {
         int move = x.move();
         x.then(move, 1, cell, v);
         return move;
     }
 
-    private static int macroOf(PlaySearch x, int... moves) {
+    private static int macroOf(Run x, int... moves) {
         for (int move : moves) {
             x.of(move);
         }
         return x.macro();
     }
 
-    private static void dueNode(PlaySearch x, int node, int... due) {
+    private static void dueNode(Run x, int node, int... due) {
         for (int what = 0; what < due.length; what++) {
             c.due("node(" + node + ", " + what + ")", x.node(node, what), due[what]);
         }
     }
 
-    private static void dueQueue(PlaySearch x, int... due) {
+    private static void dueQueue(Run x, int... due) {
         for (int i = 0; i < due.length; i++) {
             c.due("queue(" + i + ")", x.queue(i), due[i]);
         }
-        c.dueThrow("queue(-1)", x, -1);
-        c.dueThrow("queue(" + due.length + ")", x, due.length);
+        x.dueThrow(-1);
+        x.dueThrow(due.length);
     }
 
-    private static void duePlay(PlaySearch x, int... due) {
+    private static void duePlay(Run x, int... due) {
         c.due("length()", x.length(), due.length);
         for (int i = 0; i < due.length; i++) {
             c.due("at(" + i + ")", x.at(i), due[i]);
@@ -93,7 +93,7 @@ public final class PromisesTest {
         c.due("at(" + due.length + ")", x.at(due.length), NONE);
     }
 
-    private static void dueNoPlay(PlaySearch x) {
+    private static void dueNoPlay(Run x) {
         c.due("length() of none", x.length(), NONE);
         c.due("at(0) of none", x.at(0), NONE);
         c.due("at(-1) of none", x.at(-1), NONE);
@@ -102,7 +102,7 @@ public final class PromisesTest {
     }
 
     private static void promise1NewObject() {
-        PlaySearch x = new PlaySearch();
+        Run x = new Run("promises", c);
         for (int what = 0; what <= 7; what++) {
             c.due("new: told(" + what + ")", x.told(what), 0);
         }
@@ -129,7 +129,7 @@ public final class PromisesTest {
     }
 
     private static void promise2Cell() {
-        PlaySearch x = new PlaySearch();
+        Run x = new Run("promises", c);
         c.due("cell(-1)", x.cell(-1, false), NONE);
         c.due("cell(10)", x.cell(10, false), NONE);
         for (int far : FAR) {
@@ -148,7 +148,7 @@ public final class PromisesTest {
     }
 
     private static void promise3Weigh() {
-        PlaySearch x = new PlaySearch();
+        Run x = new Run("promises", c);
         c.due("weigh without cells", x.weigh(0, 1), false);
         x.cell(9, false);
         x.cell(4, true);
@@ -171,7 +171,7 @@ public final class PromisesTest {
     }
 
     private static void promise4Move() {
-        PlaySearch x = withCells(1);
+        Run x = withCells(1);
         for (int i = 0; i < 24; i++) {
             c.due("move()", x.move(), i);
         }
@@ -188,7 +188,7 @@ public final class PromisesTest {
     }
 
     private static void promise5When() {
-        PlaySearch x = new PlaySearch();
+        Run x = new Run("promises", c);
         x.cell(5, false);
         int[][] due = {{0, 4, 0}, {0, 5, 1}, {0, 6, 0}, {1, 4, 1}, {1, 5, 0}, {1, 6, 1},
             {2, 5, 0}, {2, 6, 1}, {3, 5, 0}, {3, 4, 1}, {2, 0, 0}, {3, 9, 0}, {3, 0, 1}, {2, 9, 1}};
@@ -227,7 +227,7 @@ public final class PromisesTest {
     }
 
     private static void promise6ThenIsRefused() {
-        PlaySearch x = withCells(2);
+        Run x = withCells(2);
         int move = x.move();
         int[][] good = {{0, 0}, {0, 9}, {1, -9}, {1, 9}, {2, 0}, {2, 1}, {3, 1}, {3, 10}};
         int[][] bad = {{0, -1}, {0, 10}, {1, -10}, {1, 10}, {2, -1}, {2, 2}, {3, 0}, {3, 11},
@@ -263,7 +263,7 @@ public final class PromisesTest {
     }
 
     private static void promise6ThenIsDoneInOrder() {
-        PlaySearch x = new PlaySearch();
+        Run x = new Run("promises", c);
         x.cell(3, false);
         x.cell(8, false);
         x.cell(1, false);
@@ -294,13 +294,13 @@ public final class PromisesTest {
 
     /** The numbers are worked out by hand (or by another program) from the document's rule. */
     private static void promise6Chance() {
-        PlaySearch x = withCells(1);
+        Run x = withCells(1);
         int move = x.move();
         x.then(move, 3, 0, 7);
         c.due("step", x.step(move), 1);
         c.due("132 modulo 7", x.now(10), 6);
 
-        PlaySearch y = new PlaySearch();
+        Run y = new Run("promises", c);
         y.cell(3, false);
         y.cell(7, false);
         y.move();
@@ -313,7 +313,7 @@ public final class PromisesTest {
         c.due("69695 modulo 8, ahead of the effects", y.now(10), 7);
         c.due("69695 modulo 10", y.now(11), 5);
 
-        PlaySearch z = new PlaySearch();
+        Run z = new Run("promises", c);
         for (int i = 0; i < 10; i++) {
             z.cell(9, i == 4);
         }
@@ -329,7 +329,7 @@ public final class PromisesTest {
         c.due("532319481 modulo 6", z.now(10), 3);
         c.due("modulo 1", z.now(11), 0);
 
-        PlaySearch macro = withCells(1);
+        Run macro = withCells(1);
         int draw = macro.move();
         macro.then(draw, 3, 0, 10);
         macroOf(macro, draw, draw);
@@ -339,7 +339,7 @@ public final class PromisesTest {
     }
 
     private static void promise7Show() {
-        PlaySearch x = withCells(1);
+        Run x = withCells(1);
         c.due("show without moves", x.show(0, 1), false);
         int move = x.move();
         c.due("show 0", x.show(move, 0), true);
@@ -362,7 +362,7 @@ public final class PromisesTest {
     }
 
     private static void promise8Ends() {
-        PlaySearch x = withCells(1);
+        Run x = withCells(1);
         c.due("ends without moves", x.ends(0, 1), false);
         int move = adding(x, 0, 1);
         c.due("ends 9", x.ends(move, 9), true);
@@ -387,7 +387,7 @@ public final class PromisesTest {
     }
 
     private static void promise9Of() {
-        PlaySearch x = withCells(1);
+        Run x = withCells(1);
         c.due("of without moves", x.of(0), NONE);
         x.move();
         c.due("of(1)", x.of(1), NONE);
@@ -405,7 +405,7 @@ public final class PromisesTest {
     }
 
     private static void promise10Macro() {
-        PlaySearch x = withCells(1);
+        Run x = withCells(1);
         int one = adding(x, 0, 1);
         int doubled = x.move();
         x.when(doubled, 0, 3, 1);
@@ -434,7 +434,7 @@ public final class PromisesTest {
     }
 
     private static void promise11Goal() {
-        PlaySearch x = new PlaySearch();
+        Run x = new Run("promises", c);
         c.due("goal of no cell", x.goal(0, 0, 0), NONE);
         x.cell(0, false);
         int[][] bad = {{0, 1, 0}, {0, -1, 0}, {0, 0, 10}, {0, 0, -1}, {2, -1, 0}, {2, 32, 0},
@@ -463,7 +463,7 @@ public final class PromisesTest {
     }
 
     private static void promise12Clear() {
-        PlaySearch x = withCells(1);
+        Run x = withCells(1);
         int one = adding(x, 0, 1);
         c.due("clear of none", x.clear(), 0);
         x.goal(0, 0, 7);
@@ -477,7 +477,7 @@ public final class PromisesTest {
     }
 
     private static void promise13SearchIsRefused() {
-        PlaySearch x = withCells(1);
+        Run x = withCells(1);
         adding(x, 0, 1);
         c.due("search without goal", x.search(0, 10), -2);
         x.goal(0, 0, 2);
@@ -499,7 +499,7 @@ public final class PromisesTest {
     }
 
     private static void promise13SearchInBreadth() {
-        PlaySearch x = withCells(1);
+        Run x = withCells(1);
         int five = adding(x, 0, 5);
         int one = adding(x, 0, 1);
         x.weigh(0, -1);
@@ -524,7 +524,7 @@ public final class PromisesTest {
     }
 
     private static void promise13SearchByBest() {
-        PlaySearch x = withCells(2);
+        Run x = withCells(2);
         int five = adding(x, 0, 3);
         int other = adding(x, 1, 1);
         for (int move = five; move <= other; move++) {
@@ -570,7 +570,7 @@ public final class PromisesTest {
     }
 
     private static void promise13SearchSpent() {
-        PlaySearch x = withCells(1);
+        Run x = withCells(1);
         adding(x, 0, 1);
         x.show(0, 8);
         x.goal(0, 0, 3);
@@ -591,7 +591,7 @@ public final class PromisesTest {
 
     /** 10 * 10 * 5 * 3 worlds are as many as may be allowed. */
     private static void promise13SearchOfAllNodes() {
-        PlaySearch x = withCells(4);
+        Run x = withCells(4);
         int[] most = {9, 9, 4, 2};
         for (int cell = 0; cell < 4; cell++) {
             x.when(adding(x, cell, 1), cell, 2, most[cell]);
@@ -606,12 +606,12 @@ public final class PromisesTest {
             c.due("dead", x.told(7), 1);
             c.due("queue(0)", x.queue(0), 0);
             c.due("the last is taken too", x.node(1499, 4), 1);
-            c.dueThrow("queue(1500)", x, 1500);
+            x.dueThrow(1500);
         }
     }
 
     private static void promise13SearchMeetsAlikeOnce() {
-        PlaySearch x = new PlaySearch();
+        Run x = new Run("promises", c);
         x.cell(0, false);
         x.cell(0, true);
         int tick = adding(x, 1, 1);
@@ -635,19 +635,19 @@ public final class PromisesTest {
         duePlay(x, tick);
         dueNode(x, 1, 0, tick, 0, 0, 0, 0, 1);
 
-        PlaySearch first = withCells(1);
+        Run first = withCells(1);
         first.move();
         first.goal(0, 0, 0);
         c.due("the first world is no goal, the same behind a step is", first.search(0, 2), 1);
         duePlay(first, 0);
-        PlaySearch still = withCells(1);
+        Run still = withCells(1);
         still.goal(0, 0, 0);
         c.due("without steps it is none", still.search(0, 2), 0);
         c.due("and dead", still.node(0, 5), 1);
     }
 
     private static void promise13SearchTriesMovesThenMacros() {
-        PlaySearch x = withCells(1);
+        Run x = withCells(1);
         int one = adding(x, 0, 1);
         c.due("macro", macroOf(x, one, one), 0);
         int two = adding(x, 0, 2);
@@ -664,7 +664,7 @@ public final class PromisesTest {
     }
 
     private static void promise13SearchGoals() {
-        PlaySearch x = withCells(2);
+        Run x = withCells(2);
         int one = adding(x, 0, 1);
         int other = adding(x, 1, 1);
         int end = x.move();
@@ -700,7 +700,7 @@ public final class PromisesTest {
 
     /** Counts to 1499 by macros of six moves; only the last changes more than a clock. */
     private static void promise14And15LongestPlay() {
-        PlaySearch x = withCells(4);
+        Run x = withCells(4);
         int phase = x.cell(0, true);
         int[] row = new int[6];
         for (int i = 0; i < 5; i++) {
@@ -740,7 +740,7 @@ public final class PromisesTest {
             c.due("at(8994)", x.at(8994), NONE);
             c.due("steps", x.node(1499, 6), 1499);
             c.due("queue", x.queue(1498), 1498);
-            c.dueThrow("queue(1499)", x, 1499);
+            x.dueThrow(1499);
             c.due("replays()", x.replays(), 1);
             c.due("shortest()", x.shortest(), false);
         }
@@ -752,7 +752,7 @@ public final class PromisesTest {
     }
 
     private static void promise14And15PlayOfMacros() {
-        PlaySearch x = withCells(1);
+        Run x = withCells(1);
         int one = adding(x, 0, 1);
         int two = adding(x, 0, 2);
         x.when(two, 0, 3, 0);
@@ -774,7 +774,7 @@ public final class PromisesTest {
     }
 
     private static void promise16Shortest() {
-        PlaySearch x = withCells(1);
+        Run x = withCells(1);
         c.due("without a search", x.shortest(), false);
         adding(x, 0, 1);
         x.goal(0, 0, 2);
@@ -790,7 +790,7 @@ public final class PromisesTest {
         x.search(0, 10);
         c.due("a cell is a clock", x.shortest(), false);
         c.due("found all the same", x.length(), 2);
-        PlaySearch y = withCells(1);
+        Run y = withCells(1);
         adding(y, 0, 1);
         y.goal(0, 0, 2);
         y.search(0, 10);
@@ -803,7 +803,7 @@ public final class PromisesTest {
     }
 
     private static void promise17Replays() {
-        PlaySearch x = withCells(1);
+        Run x = withCells(1);
         int one = adding(x, 0, 1);
         c.due("without a search", x.replays(), NONE);
         x.show(one, 2);
@@ -832,7 +832,7 @@ public final class PromisesTest {
         c.due("with conditions as they are now", x.replays(), 0);
         c.due("the play stays", x.length(), 3);
 
-        PlaySearch y = withCells(1);
+        Run y = withCells(1);
         int draw = y.move();
         y.then(draw, 3, 0, 10);
         y.goal(0, 0, 2);
@@ -842,7 +842,7 @@ public final class PromisesTest {
         // the tape tells of the new cell too: 132 * 131 + 1 is 17293
         c.due("with the cells as they are now", y.replays(), 0);
 
-        PlaySearch ended = withCells(1);
+        Run ended = withCells(1);
         int end = ended.move();
         ended.ends(end, 5);
         ended.goal(3, 5, 0);
@@ -853,7 +853,7 @@ public final class PromisesTest {
     }
 
     private static void promise18Node() {
-        PlaySearch x = new PlaySearch();
+        Run x = new Run("promises", c);
         x.cell(4, false);
         x.cell(7, true);
         x.weigh(0, -1);
@@ -885,7 +885,7 @@ public final class PromisesTest {
     }
 
     private static void promise18NodeStays() {
-        PlaySearch x = withCells(1);
+        Run x = withCells(1);
         int one = adding(x, 0, 1);
         x.show(one, 4);
         x.weigh(0, 5);
@@ -916,7 +916,7 @@ public final class PromisesTest {
     }
 
     private static void promise19Meet() {
-        PlaySearch x = new PlaySearch();
+        Run x = new Run("promises", c);
         x.cell(0, false);
         x.cell(0, true);
         int end = x.move();
@@ -946,7 +946,7 @@ public final class PromisesTest {
     }
 
     private static void promise20Seen() {
-        PlaySearch x = withCells(1);
+        Run x = withCells(1);
         int still = x.move();
         x.show(still, 31);
         int one = adding(x, 0, 1);
@@ -981,7 +981,7 @@ public final class PromisesTest {
     }
 
     private static void promise20SeenOfMacros() {
-        PlaySearch x = withCells(1);
+        Run x = withCells(1);
         int one = adding(x, 0, 1);
         x.show(one, 10);
         int two = x.move();
@@ -995,7 +995,7 @@ public final class PromisesTest {
         c.due("spent by the macro", x.search(0, 2), -1);
         c.due("which was done", x.seen(11), true);
 
-        PlaySearch z = withCells(1);
+        Run z = withCells(1);
         int tick = z.cell(0, true);
         int first = adding(z, tick, 1);
         z.show(first, 20);
@@ -1020,7 +1020,7 @@ public final class PromisesTest {
     }
 
     private static void promise21Never() {
-        PlaySearch x = withCells(1);
+        Run x = withCells(1);
         int[] texts = {31, 4, 0, 4, 17, NONE};
         for (int text : texts) {
             int move = x.move();
@@ -1054,7 +1054,7 @@ public final class PromisesTest {
     }
 
     private static void promise22Queue() {
-        PlaySearch x = withCells(1);
+        Run x = withCells(1);
         dueQueue(x);
         adding(x, 0, 1);
         c.due("refused", x.search(0, 10), -2);
@@ -1063,10 +1063,10 @@ public final class PromisesTest {
         x.search(0, 10);
         dueQueue(x, 0, 1, 2, 3);
         for (int far : FAR) {
-            c.dueThrow("queue(" + far + ")", x, far);
+            x.dueThrow(far);
         }
-        c.dueThrow("queue(1499)", x, 1499);
-        c.dueThrow("queue(1500)", x, 1500);
+        x.dueThrow(1499);
+        x.dueThrow(1500);
         x.search(0, 1);
         dueQueue(x, 0);
         c.due("a throw changes nothing", x.told(6), 1);
@@ -1074,7 +1074,7 @@ public final class PromisesTest {
     }
 
     private static void promise23Begin() {
-        PlaySearch x = new PlaySearch();
+        Run x = new Run("promises", c);
         x.cell(3, false);
         int one = adding(x, 0, 1);
         int end = x.move();
@@ -1099,7 +1099,7 @@ public final class PromisesTest {
     }
 
     private static void promise24Step() {
-        PlaySearch x = withCells(1);
+        Run x = withCells(1);
         int one = adding(x, 0, 1);
         int big = x.move();
         x.when(big, 0, 3, 1);
@@ -1136,7 +1136,7 @@ public final class PromisesTest {
     }
 
     private static void promise25Now() {
-        PlaySearch x = new PlaySearch();
+        Run x = new Run("promises", c);
         x.cell(2, false);
         x.cell(5, false);
         x.weigh(0, 10);
@@ -1181,7 +1181,7 @@ public final class PromisesTest {
     }
 
     private static void promise26Told() {
-        PlaySearch x = withCells(3);
+        Run x = withCells(3);
         int one = adding(x, 0, 1);
         x.when(one, 0, 2, 4);
         int two = adding(x, 1, 1);
@@ -1212,7 +1212,7 @@ public final class PromisesTest {
     }
 
     private static void refusedCallsChangeNothing() {
-        PlaySearch x = withCells(2);
+        Run x = withCells(2);
         int one = adding(x, 0, 1);
         x.of(one);
         x.goal(0, 0, 2);

@@ -65,6 +65,10 @@ final class Run {
         }
     }
 
+    void dueCalls(int want) {
+        checks.due(here() + ": calls of one object", calls, want);
+    }
+
     void dueThrow(int i) {
         note("queue", i);
         checks.dueThrow(here(), object, i);
